@@ -61,8 +61,7 @@ public final class TreeCount {
             return string == symbol ? 1 : 0;
         }
         word.read(string);
-        spans.fill(grammar, word, false);
-        treeChart.fill(grammar, word, spans);
+        treeChart.fill(grammar, word);
         return treeChart.whole(symbol, word);
     }
 
@@ -213,7 +212,7 @@ public final class TreeCount {
         if (a < 0 || b < 0) {
             return ENDLESS;
         }
-        return Math.min(MANY, a + b);
+        return a + b < MANY ? a + b : MANY;
     }
 
     private static long capProduct(long a, long b) {
@@ -299,7 +298,7 @@ public final class TreeCount {
 
     /** What holds of the nonterminals of a grammar, whatever the string. */
     private static final class Marks {
-        /** Each round of a set of letters and bit 0 for each nonterminal adds a bit, or is the last. */
+        /** A nonterminal has a set of three letters and bit 0; each round adds a bit, or is the last. */
         private static final int ROUNDS = 4 * NONTERMINAL_COUNT + 1;
 
         int productive;
@@ -307,9 +306,10 @@ public final class TreeCount {
         int reached;
         int recurring;
         int rulesOfUse;
+        /** Letters right behind a nonterminal in rows, and bit 0 for the end of one. */
+        final int[] behind = new int[SYMBOLS];
         /** Letters that begin derived strings, and bit 0 for the empty one. */
         final int[] stringHeads = new int[SYMBOLS];
-        final int[] behind = new int[SYMBOLS];
         /** The same of rows, which may hold nonterminals that derive no string. */
         private final int[] rowHeads = new int[SYMBOLS];
         private final int[] comes = new int[SYMBOLS];
@@ -483,7 +483,7 @@ public final class TreeCount {
 
         private final int[][] ends = new int[SYMBOLS][PLACES];
 
-        /** Open: whatever may stand behind the string, it is read at the last place. */
+        /** Open: more letters may stand behind the string, and are read at its last place. */
         void fill(Grammar g, Word w, boolean open) {
             for (int x = 1; x < SYMBOLS; x++) {
                 for (int i = 0; i < w.length; i++) {
@@ -550,6 +550,23 @@ public final class TreeCount {
 
         abstract long both(long a, long b);
 
+        /** The values of all nonterminals for the part from i to j, when those of smaller parts stand. */
+        abstract void fillPart(Grammar g, int i, int j);
+
+        /** What a chart must know of a string before it is filled. */
+        void prepare(Grammar g, Word w) {
+        }
+
+        void fill(Grammar g, Word w) {
+            prepare(g, w);
+            putLetters(w);
+            for (int n = 0; n <= w.length; n++) {
+                for (int i = 0; i + n <= w.length; i++) {
+                    fillPart(g, i, i + n);
+                }
+            }
+        }
+
         long whole(int symbol, Word w) {
             return values[symbol][w.length];
         }
@@ -558,7 +575,7 @@ public final class TreeCount {
             return i * PLACES + j;
         }
 
-        void putLetters(Word w) {
+        private void putLetters(Word w) {
             long none = none();
             for (int x = 1; x < SYMBOLS; x++) {
                 for (int c = 0; c < PLACES * PLACES; c++) {
@@ -600,6 +617,8 @@ public final class TreeCount {
 
     /** How many trees. */
     private static final class TreeChart extends Chart {
+        private final Spans derived = new Spans();
+        /** For each nonterminal those that can be under it with the same part. */
         private final int[] needs = new int[SYMBOLS];
 
         long none() {
@@ -618,21 +637,16 @@ public final class TreeCount {
             return capProduct(a, b);
         }
 
-        void fill(Grammar g, Word w, Spans spans) {
-            putLetters(w);
-            for (int n = 0; n <= w.length; n++) {
-                for (int i = 0; i + n <= w.length; i++) {
-                    fillPart(g, spans, i, i + n);
-                }
-            }
+        void prepare(Grammar g, Word w) {
+            derived.fill(g, w, false);
         }
 
         /**
-         * A nonterminal is counted after those that can be under it with the same part. What is
-         * never ready stands above a ring of such, which trees can go round any number of times.
+         * A nonterminal is counted after those that it needs. What is never ready is in or above a
+         * ring of such needs, which trees can go round any number of times.
          */
-        private void fillPart(Grammar g, Spans spans, int i, int j) {
-            findNeeds(g, spans, i, j);
+        void fillPart(Grammar g, int i, int j) {
+            findNeeds(g, i, j);
             int ready = 0;
             for (int round = 0; round < NONTERMINAL_COUNT; round++) {
                 for (int a = START; a < SYMBOLS; a++) {
@@ -659,23 +673,23 @@ public final class TreeCount {
             return total;
         }
 
-        private void findNeeds(Grammar g, Spans spans, int i, int j) {
+        private void findNeeds(Grammar g, int i, int j) {
             for (int a = START; a < SYMBOLS; a++) {
                 needs[a] = 0;
             }
             for (int r = 0; r < g.count; r++) {
                 for (int q = 0; q < g.length[r]; q++) {
                     int x = g.symbol(r, q);
-                    if (x >= START && spans.has(x, i, j) && othersVanish(g, spans, r, q)) {
+                    if (x >= START && derived.has(x, i, j) && othersVanish(g, r, q)) {
                         needs[g.left[r]] |= 1 << x;
                     }
                 }
             }
         }
 
-        private static boolean othersVanish(Grammar g, Spans spans, int r, int q) {
+        private boolean othersVanish(Grammar g, int r, int q) {
             for (int p = 0; p < g.length[r]; p++) {
-                if (p != q && !spans.has(g.symbol(r, p), 0, 0)) {
+                if (p != q && !derived.has(g.symbol(r, p), 0, 0)) {
                     return false;
                 }
             }
@@ -704,17 +718,8 @@ public final class TreeCount {
             return Math.min(NO_TREE, a + b);
         }
 
-        void fill(Grammar g, Word w) {
-            putLetters(w);
-            for (int n = 0; n <= w.length; n++) {
-                for (int i = 0; i + n <= w.length; i++) {
-                    fillPart(g, i, i + n);
-                }
-            }
-        }
-
         /** A least tree has no nonterminal under itself with the same part, so the rounds suffice. */
-        private void fillPart(Grammar g, int i, int j) {
+        void fillPart(Grammar g, int i, int j) {
             boolean changed = true;
             for (int round = 0; round < NONTERMINAL_COUNT && changed; round++) {
                 changed = false;
@@ -802,6 +807,7 @@ public final class TreeCount {
             return join(counts[x - START], rest, behind == 1 ? cell(0, end) : 0, s);
         }
 
+        /** In how many ways one symbol makes the part from i to the end in work with s rules. */
         private long ofSymbol(Word w, int x, int i, int s) {
             if (x >= START) {
                 return counts[x - START][cell(i, end) + s];
@@ -809,7 +815,7 @@ public final class TreeCount {
             return i + 1 == end && s == 0 && w.letters[i] == x ? 1 : 0;
         }
 
-        /** The same as of the part in work, of the part behind its first letter. */
+        /** As ofPart, but of the part in work without its first letter, which is filled before it. */
         private long ofRest(Grammar g, Word w, int r, int q, int s) {
             if (q == g.length[r] - 1) {
                 return ofSymbol(w, g.symbol(r, q), begin + 1, s);
@@ -840,7 +846,7 @@ public final class TreeCount {
      */
     private static final class Listing {
         /** How many strings are shorter than so many letters. */
-        private static final int[] SHORTER = {0, 1, 4, 13, 40, 121, 364, 1093};
+        private static final int[] SHORTER = {0, 1, 4, 13, 40, 121, 364};
         private static final int[] OF_LENGTH = {1, 3, 9, 27, 81, 243, 729};
         private static final int STRINGS = 1093;
         /** Each round adds a nonterminal to those with a tree or with several, or is the last. */
