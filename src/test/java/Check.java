@@ -1,5 +1,3 @@
-import java.util.NoSuchElementException;
-
 /** Counts and prints the answers that are not as due. */
 final class Check {
     /** A call whose answer, or whose exception, is looked at. */
@@ -11,14 +9,20 @@ final class Check {
     static final String STATE = "IllegalStateException";
     static final String NO_ELEMENT = "NoSuchElementException";
 
+    private String sentence = "";
     private int wrong;
     private int looked;
+
+    /** The sentence of the document that the answers looked at from here on belong to. */
+    void sentence(String where, String words) {
+        sentence = where + ", '" + words + "': ";
+    }
 
     void due(String what, long want, long got) {
         looked++;
         if (got != want) {
             wrong++;
-            System.out.println(what + " answered " + got + ", due is " + want);
+            System.out.println(sentence + what + " answered " + got + ", due is " + want);
         }
     }
 
@@ -31,14 +35,14 @@ final class Check {
         String got = thrownBy(call);
         if (!got.equals(want)) {
             wrong++;
-            System.out.println(what + " threw " + got + ", due is " + want);
+            System.out.println(sentence + what + " threw " + got + ", due is " + want);
         }
     }
 
     private static String thrownBy(Call call) {
         try {
             return "nothing, but answered " + call.answer();
-        } catch (IllegalArgumentException | IllegalStateException | NoSuchElementException e) {
+        } catch (RuntimeException e) {
             return e.getClass().getSimpleName();
         }
     }

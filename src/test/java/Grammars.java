@@ -51,13 +51,28 @@ final class Grammars {
         }
         int[] rule = new int[1 + below(longest + 1)];
         rule[0] = 4 + below(nonterminals);
-        int right = 0;
         for (int q = 1; q < rule.length; q++) {
             rule[q] = below(2) == 0 ? 1 + below(letters) : 4 + below(nonterminals);
-            right |= rule[q] << (4 * (q - 1));
         }
         rules.add(rule);
-        object.rule(rule[0], right);
+        addTo(object, rule);
+    }
+
+    private static void addTo(TreeCount x, int[] rule) {
+        int right = 0;
+        for (int q = 1; q < rule.length; q++) {
+            right |= rule[q] << (4 * (q - 1));
+        }
+        x.rule(rule[0], right);
+    }
+
+    /** A new object with the same rules. */
+    TreeCount another() {
+        TreeCount x = new TreeCount();
+        for (int[] rule : rules) {
+            addTo(x, rule);
+        }
+        return x;
     }
 
     int[] word(int longestWord) {

@@ -4,6 +4,8 @@ import java.util.List;
 /** What is said of all strings of up to six letters, against what trees says of each alone. */
 public final class ListingTest {
     private static final int GRAMMARS = 300;
+    /** Behind so many, another object is asked, since one is used for 512 calls at most. */
+    private static final int STRINGS_FOR_ONE = 400;
 
     private final Check check = new Check();
     /** All strings of up to six letters, from the least one on. */
@@ -40,8 +42,12 @@ public final class ListingTest {
         long[] trees = new long[words.size()];
         int[] derived = new int[7];
         int all = 0;
+        TreeCount other = null;
         for (int at = 0; at < trees.length; at++) {
-            trees[at] = x.trees(4, Grammars.number(words.get(at)));
+            if (at % STRINGS_FOR_ONE == 0) {
+                other = grammars.another();
+            }
+            trees[at] = other.trees(4, Grammars.number(words.get(at)));
             derived[words.get(at).length] += trees[at] != 0 ? 1 : 0;
             all += trees[at] != 0 ? 1 : 0;
         }

@@ -1,10 +1,5 @@
 /** Each promise of the document by examples: ordinary inputs, the edges that it names, wrong inputs. */
-public final class PromisesTest {
-    private static final int[] NO_STRINGS = {-1, 4, 8, 16, 64, 0x4000, 0x10000, 0x15555, 0x7FFFFFFF, 0x80000000};
-    private static final int[] NO_NONTERMINALS = {-1, 0, 1, 2, 3, 12, 15, 16, 20, 0x80000004, 0x7FFFFFFF};
-
-    private final Check check = new Check();
-
+public final class PromisesTest extends Cases {
     public static void main(String[] args) {
         PromisesTest test = new PromisesTest();
         test.newObject();
@@ -28,39 +23,6 @@ public final class PromisesTest {
         test.lookTells();
         test.objectsApart();
         test.check.finish();
-    }
-
-    /** A right side as a number. */
-    private static int right(int... symbols) {
-        int number = 0;
-        for (int q = 0; q < symbols.length; q++) {
-            number |= symbols[q] << (4 * q);
-        }
-        return number;
-    }
-
-    /** A string as a number, of its letters written out. */
-    private static int string(String letters) {
-        int number = 0;
-        for (int p = 0; p < letters.length(); p++) {
-            number |= (letters.charAt(p) - '0') << (2 * p);
-        }
-        return number;
-    }
-
-    /** An object with rules, each a left side and then its right side. */
-    private static TreeCount with(int[]... rules) {
-        TreeCount x = new TreeCount();
-        for (int[] rule : rules) {
-            int[] symbols = new int[rule.length - 1];
-            System.arraycopy(rule, 1, symbols, 0, symbols.length);
-            x.rule(rule[0], right(symbols));
-        }
-        return x;
-    }
-
-    private static int[] rule(int... leftAndRight) {
-        return leftAndRight;
     }
 
     private void newObject() {
@@ -463,14 +425,6 @@ public final class PromisesTest {
         for (int what : new int[] {-1, 7, 8, 100, 0x7FFFFFFF, 0x80000000}) {
             check.dueThrow("look(" + what + ")", Check.ARGUMENT, () -> x.look(what));
         }
-    }
-
-    private static int bits(int... places) {
-        int set = 0;
-        for (int place : places) {
-            set |= 1 << place;
-        }
-        return set;
     }
 
     private void objectsApart() {
