@@ -4,6 +4,8 @@ import java.util.List;
 /** What is said of all strings of up to six letters, against what trees says of each alone. */
 public final class ListingTest {
     private static final int GRAMMARS = 300;
+    /** So many more lead through all nonterminals one after the other. */
+    private static final int CHAINS = 40;
     /** Behind so many, another object is asked, since one is used for 512 calls at most. */
     private static final int STRINGS_FOR_ONE = 400;
 
@@ -14,9 +16,13 @@ public final class ListingTest {
     public static void main(String[] args) {
         ListingTest test = new ListingTest();
         test.listWords();
-        for (int seed = 0; seed < GRAMMARS; seed++) {
+        for (int seed = 0; seed < GRAMMARS + CHAINS; seed++) {
             Grammars grammars = new Grammars(1000 + seed);
-            grammars.startAnew();
+            if (seed < GRAMMARS) {
+                grammars.startAnew();
+            } else {
+                grammars.startChain();
+            }
             test.compare(grammars);
             grammars.change();
             test.compare(grammars);

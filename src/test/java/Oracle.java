@@ -1,11 +1,14 @@
 import java.util.ArrayList;
+import java.util.Comparator;
 import java.util.HashMap;
 import java.util.List;
 import java.util.Map;
+import java.util.TreeMap;
 
 /**
  * The answers by other and slower ways: questions about strings and rows by running all trees of a
- * symbol through a finite automaton, counts by height or by size from the top.
+ * symbol through a finite automaton, counts by height or by size from the top, all short strings by
+ * joining what the symbols of each rule derive until nothing new comes.
  */
 final class Oracle {
     private static final long MANY = 1000000000000000L;
@@ -14,9 +17,14 @@ final class Oracle {
     private static final int KEPT = 100;
     private static final int MARK = 200;
     private static final int TERMINALS = 201;
+    /** The less string first. */
+    private static final Comparator<String> ORDER =
+        Comparator.comparingInt(String::length).thenComparing(Comparator.naturalOrder());
 
     /** A rule is its left side and then its right side. */
     private final List<int[]> rules;
+    /** How many trees, but not above two, the start has with each string of up to six letters. */
+    private TreeMap<String, Integer> listed;
 
     Oracle(List<int[]> rules) {
         this.rules = rules;
@@ -357,5 +365,86 @@ final class Oracle {
             }
         }
         return best;
+    }
+
+    int strings(int length) {
+        int total = 0;
+        for (String word : listed().keySet()) {
+            total += word.length() == length ? 1 : 0;
+        }
+        return total;
+    }
+
+    int stringsInAll() {
+        return listed().size();
+    }
+
+    /** The least one as a number, or -1. */
+    int ambiguous(int length) {
+        for (Map.Entry<String, Integer> one : listed().entrySet()) {
+            if (one.getValue() > 1) {
+                return one.getKey().length() <= length ? Cases.string(one.getKey()) : -1;
+            }
+        }
+        return -1;
+    }
+
+    /** The least one as a number, or -1. */
+    int from(String lowest) {
+        String least = listed().ceilingKey(lowest);
+        return least == null ? -1 : Cases.string(least);
+    }
+
+    private TreeMap<String, Integer> listed() {
+        if (listed == null) {
+            listed = listAll().get(4);
+        }
+        return listed;
+    }
+
+    /** Of each symbol the strings of up to six letters, by trees that grow by a rule at their top each time. */
+    private List<TreeMap<String, Integer>> listAll() {
+        List<TreeMap<String, Integer>> known = new ArrayList<>();
+        for (int x = 0; x < 12; x++) {
+            known.add(new TreeMap<>(ORDER));
+            if (x >= 1 && x <= 3) {
+                known.get(x).put(Integer.toString(x), 1);
+            }
+        }
+        boolean changed = true;
+        while (changed) {
+            List<TreeMap<String, Integer>> next = new ArrayList<>(known.subList(0, 4));
+            for (int a = 4; a < 12; a++) {
+                next.add(new TreeMap<>(ORDER));
+            }
+            for (int[] rule : rules) {
+                joined(rule, known).forEach((word, ways) -> next.get(rule[0]).merge(word, ways, Oracle::upToTwo));
+            }
+            changed = !next.equals(known);
+            known = next;
+        }
+        return known;
+    }
+
+    private static Map<String, Integer> joined(int[] rule, List<TreeMap<String, Integer>> known) {
+        Map<String, Integer> row = Map.of("", 1);
+        for (int q = 1; q < rule.length; q++) {
+            Map<String, Integer> longer = new HashMap<>();
+            for (Map.Entry<String, Integer> head : row.entrySet()) {
+                for (Map.Entry<String, Integer> tail : known.get(rule[q]).entrySet()) {
+                    if (head.getKey().length() + tail.getKey().length() > 6) {
+                        break;
+                    }
+                    int ways = Math.min(2, head.getValue() * tail.getValue());
+                    longer.merge(head.getKey() + tail.getKey(), ways, Oracle::upToTwo);
+                }
+            }
+            row = longer;
+        }
+        return row;
+    }
+
+    private static int upToTwo(int a, int b) {
+        return Math.min(2, a + b);
     }
 }

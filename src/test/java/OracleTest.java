@@ -3,15 +3,21 @@ import java.util.Arrays;
 /** Many grammars, kept and changed in the same object, against the slower ways of Oracle. */
 public final class OracleTest {
     private static final int GRAMMARS = 400;
+    /** So many more lead through all nonterminals one after the other. */
+    private static final int CHAINS = 100;
     private static final int CHANGES = 4;
 
     private final Check check = new Check();
 
     public static void main(String[] args) {
         OracleTest test = new OracleTest();
-        for (int seed = 0; seed < GRAMMARS; seed++) {
+        for (int seed = 0; seed < GRAMMARS + CHAINS; seed++) {
             Grammars grammars = new Grammars(seed);
-            grammars.startAnew();
+            if (seed < GRAMMARS) {
+                grammars.startAnew();
+            } else {
+                grammars.startChain();
+            }
             for (int n = 0; n < CHANGES; n++) {
                 test.symbols(grammars);
                 test.words(grammars, 5);
