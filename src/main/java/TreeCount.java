@@ -355,7 +355,7 @@ public final class TreeCount {
             return ((set >> symbol) & 1) != 0;
         }
 
-        /** The given symbols, and all left sides whose right sides are built of such. */
+        /** The given symbols, and all left sides whose right sides are built of such; a round adds one, or none can. */
         private static int builtFrom(Grammar g, int given) {
             int set = given;
             for (int round = 0; round < NONTERMINAL_COUNT; round++) {
@@ -368,7 +368,7 @@ public final class TreeCount {
             return set;
         }
 
-        /** The nonterminals in rows that come of the start by rules of allowed symbols alone. */
+        /** The nonterminals in rows that come of the start by rules of allowed symbols alone, found as above. */
         private static int reachedThrough(Grammar g, int allowed) {
             int set = 1 << START;
             for (int round = 0; round < NONTERMINAL_COUNT; round++) {

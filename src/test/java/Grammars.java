@@ -96,7 +96,7 @@ final class Grammars {
             return nextStep();
         }
         int[] rule = new int[1 + below(longest + 1)];
-        rule[0] = 4 + below(nonterminals);
+        rule[0] = below(4) == 0 ? 4 : 4 + below(nonterminals);
         for (int q = 1; q < rule.length; q++) {
             rule[q] = below(2) == 0 ? 1 + below(letters) : 4 + below(nonterminals);
         }

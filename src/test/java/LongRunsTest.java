@@ -126,14 +126,14 @@ public final class LongRunsTest {
         } else if (kind == 4) {
             check.due(before + "ambiguous(" + length + ")", oracle.ambiguous(length), object.ambiguous(length));
         } else {
-            askOfWord(kind, source.below(3) == 0 ? 4 : symbol);
+            askOfWord(kind, source.below(3) == 0 ? symbol : 4);
         }
     }
 
     private void askOfWord(int kind, int symbol) {
-        int[] word = source.word(source.below(8) == 0 ? 8 : 4);
+        int[] word = nextWord();
         int string = Grammars.number(word);
-        int size = 1 + source.below(source.below(4) == 0 ? 30 : 12);
+        int size = Math.min(30, source.below(4) == 0 ? source.below(31) : oracle.least(word) + source.below(6));
         if (kind == 5) {
             check.due(before + "from(" + string + ")", oracle.from(Grammars.letters(word)), object.from(string));
         } else if (kind == 6) {
@@ -147,6 +147,14 @@ public final class LongRunsTest {
             check.due(before + "trees(" + symbol + ", " + string + ")", oracle.trees(symbol, word),
                 object.trees(symbol, string));
         }
+    }
+
+    /** Any string, or one of those that are derived, so that not almost all answers are that there is none. */
+    private int[] nextWord() {
+        if (source.below(2) == 0) {
+            return source.word(source.below(8) == 0 ? 8 : 4);
+        }
+        return oracle.someString(source.below(2000)).chars().map(letter -> letter - '0').toArray();
     }
 
     /** A call of some kind that throws. */

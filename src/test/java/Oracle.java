@@ -375,6 +375,12 @@ final class Oracle {
         return total;
     }
 
+    /** One of the strings of up to six letters that are derived, or the empty one. */
+    String someString(int number) {
+        List<String> all = new ArrayList<>(listed().keySet());
+        return all.isEmpty() ? "" : all.get(number % all.size());
+    }
+
     int stringsInAll() {
         return listed().size();
     }

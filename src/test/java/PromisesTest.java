@@ -22,6 +22,7 @@ public final class PromisesTest extends Cases {
         test.followTells();
         test.lookTells();
         test.objectsApart();
+        test.readmeExample();
         test.check.finish();
     }
 
@@ -434,5 +435,28 @@ public final class PromisesTest extends Cases {
         check.due("the other too", 0, other.trees(4, 1));
         check.due("one's strings", 1, one.from(0));
         check.due("the other's", 2, other.from(0));
+    }
+
+    /** The calls that README.md shows, with the answers that stand there. */
+    private void readmeExample() {
+        TreeCount x = new TreeCount();
+        check.due("README: rule(4, 0x414)", 1, x.rule(4, 0x414));
+        check.due("README: rule(4, 2)", 2, x.rule(4, 2));
+        check.due("README: 614 is 21212", string("21212"), 614);
+        check.due("README: trees(4, 614)", 2, x.trees(4, 614));
+        check.due("README: sized(614, 5)", 2, x.sized(614, 5));
+        check.due("README: least(614)", 5, x.least(614));
+        check.due("README: strings(5)", 1, x.strings(5));
+        check.due("README: ambiguous(6)", 614, x.ambiguous(6));
+        check.due("README: from(3)", 38, x.from(3));
+        check.due("README: begins(6)", true, x.begins(6));
+        check.due("README: first(4)", 4, x.first(4));
+        check.due("README: follow(4)", 3, x.follow(4));
+        check.due("README: look(5)", 2, x.look(5));
+        check.due("README: rule(4, 4)", 3, x.rule(4, 4));
+        check.due("README: trees(4, 2)", -1, x.trees(4, 2));
+        check.due("README: drop(2)", 2, x.drop(2));
+        check.due("README: trees(4, 2) behind it", 1, x.trees(4, 2));
+        check.dueThrow("README: rule(3, 1)", Check.ARGUMENT, () -> x.rule(3, 1));
     }
 }

@@ -11,6 +11,7 @@ public final class TermsBoundsTest extends Cases {
         test.rightSideAsNumber();
         test.treeOfLetter();
         test.treeOfNonterminal();
+        test.stringOfTree();
         test.sizeOfTree();
         test.treesDiffer();
         test.stringAsNumber();
@@ -166,6 +167,24 @@ public final class TermsBoundsTest extends Cases {
         TreeCount empty = grammar("b>");
         check.due("the rule without symbols", 1, empty.trees(11, 0));
         check.due("another left side", 0, empty.trees(10, 0));
+    }
+
+    private void stringOfTree() {
+        check.sentence("Terms", "Its STRING: the letters, from left to right");
+        TreeCount flat = grammar("4>5263 5>12 6>31");
+        TreeCount deep = grammar("4>53 5>61 6>73 7>82 8>12");
+        for (TreeCount x : new TreeCount[] {flat, deep}) {
+            check.due("trees of 122313", 1, x.trees(4, string("122313")));
+            check.due("trees of it backwards", 0, x.trees(4, string("313221")));
+            check.due("trees of its halves, changed", 0, x.trees(4, string("313122")));
+            check.due("the only one", string("122313"), x.from(0));
+            check.due("none of the others", 1, x.look(6));
+            check.due("begins with 122", true, x.begins(string("122")));
+            check.due("does not begin with 313", false, x.begins(string("313")));
+            check.due("first letter", bits(1), x.first(4));
+        }
+        check.due("size of two below", 3, flat.least(string("122313")));
+        check.due("size of four below", 5, deep.least(string("122313")));
     }
 
     private void sizeOfTree() {
