@@ -642,8 +642,9 @@ public final class TreeCount {
         }
 
         /**
-         * A nonterminal is counted after those that it needs. What is never ready is in or above a
-         * ring of such needs, which trees can go round any number of times.
+         * A nonterminal is counted after those that it needs, in each round one or more, until none is
+         * left that can be. What is never ready is in or above a ring of such needs, which trees can
+         * go round any number of times.
          */
         void fillPart(Grammar g, int i, int j) {
             findNeeds(g, i, j);
