@@ -338,12 +338,14 @@ public final class ChainTest extends Cases {
         TreeCount letter = chain("A>B1 B>C C>D D>E E>F F>G G>H");
         TreeCount own = chain("A>B1 B>C2 C>D3 D>E E>F F>G G>H");
         TreeCount ring = chain(STEPS + " H>A2");
+        TreeCount round = chain("A>B1 " + STEPS + " H>A");
         TreeCount vanishing = chain("A>B1 B>CH C>DH D>EH E>FH F>GH G>HH H> H>3");
         for (int place = 0; place < 8; place++) {
             check.due("at the end: " + on(place), bits(0), end.follow(on(place)));
             check.due("before a letter: " + on(place), bits(place == 0 ? 0 : 1), letter.follow(on(place)));
             check.due("before its own letter: " + on(place), bits(Math.min(3, place)), own.follow(on(place)));
             check.due("in a ring: " + on(place), bits(0, 2), ring.follow(on(place)));
+            check.due("round to the start: " + on(place), bits(0, 1), round.follow(on(place)));
             int due = place == 0 ? bits(0) : place == 1 ? bits(1) : bits(1, 3);
             check.due("before what can vanish: " + on(place), due, vanishing.follow(on(place)));
         }
